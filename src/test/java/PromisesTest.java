@@ -50,6 +50,7 @@ public final class PromisesTest {
         writes();
         takes();
         images();
+        imagesOfDoubts();
         restores();
         counts();
         Check.end();
@@ -1246,6 +1247,30 @@ public final class PromisesTest {
         due("the doubts of then", 2, () -> x.doubt(1, 0, 5));
         due("their chances", 1, () -> x.risk(2, 0));
         fraction(x, "two and a half late", 45, 2);
+    }
+
+    /** Two images of which each holds its own doubts of one household. */
+    private static void imagesOfDoubts() {
+        CoalStreet x = Streets.trusting(0);
+        Streets.tell(x, "late 1;");
+        x.image(0);
+        x.doubt(0, 4, 1);
+        x.doubt(0, 8, 1);
+        x.image(1);
+        x.restore(0);
+        x.doubt(0, 1, 5);
+        x.doubt(0, 2, 5);
+        x.image(2);
+        x.restore(1);
+        x.risk(1, 0);
+        fraction(x, "the doubts of image 1", 6, 1);
+        x.restore(2);
+        x.risk(1, 0);
+        fraction(x, "the doubts of image 2", 3, 2);
+        x.restore(1);
+        x.doubt(0, 0, 7);
+        x.risk(1, 0);
+        fraction(x, "the chances of image 1", 4, 3);
     }
 
     private static void restores() {
