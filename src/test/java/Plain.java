@@ -984,7 +984,8 @@ final class Plain {
         BigInteger[] least = null;
         for (int q = 0; q <= 8 * Integer.bitCount(set); q++) {
             BigInteger[] risk = riskOf(set, q);
-            if (risk != null && (least == null || risk[0].multiply(least[1]).compareTo(least[0].multiply(risk[1])) < 0)) {
+            if (risk != null && (least == null
+                    || risk[0].multiply(least[1]).compareTo(least[0].multiply(risk[1])) < 0)) {
                 least = risk;
                 best = q;
             }

@@ -366,6 +366,11 @@ public final class PromisesTest {
         textFault("wholes;", 2, 0);
         textFault("whol;", 2, 0);
         textFault("5;", 2, 0);
+        textFault("z;", 2, 0);
+        textFault("a;", 2, 0);
+        textFault("azaz?", 2, 0);
+        textFault("rule alonez;", 2, 5);
+        wordsMisspelt();
         textFault("parts;", 2, 0);
         textFault("rule;", 2, 4);
         textFault("rule 5;", 2, 5);
@@ -400,6 +405,20 @@ public final class PromisesTest {
         textFault(four + "cart 1 1;", 4, four.length());
         textFault(four + "carts", 2, four.length());
         textFault(six + four + "cart", 4, six.length() + four.length());
+    }
+
+    /** Each letter of each word that may begin a line is looked at. */
+    private static void wordsMisspelt() {
+        for (String word : "whole above step cart gather keep months rise late rule".split(" ")) {
+            for (int i = 0; i < word.length(); i++) {
+                textFault(word.substring(0, i) + "q" + word.substring(i + 1) + " 1 1;", 2, 0);
+            }
+        }
+        for (String word : "parts alone alike".split(" ")) {
+            for (int i = 0; i < word.length(); i++) {
+                textFault("rule " + word.substring(0, i) + "q" + word.substring(i + 1) + ";", 2, 5);
+            }
+        }
     }
 
     private static void faults() {
@@ -880,6 +899,7 @@ public final class PromisesTest {
         due("a number below 0", 0, () -> x.proof(1, 7, 2));
         put(x, 1, 3, 3, 1, 5, 1, 6, 1, 1, 100001);
         due("a number above 100,000", 0, () -> x.proof(1, 7, 2));
+        proofsAtTheEdges();
         put(x, 1, 3);
         due("an empty tray", 0, () -> x.proof(1, 7, 2));
         put(x, 1, 3, 3, 1);
@@ -896,6 +916,37 @@ public final class PromisesTest {
         refused(x, "no total", ISE, () -> x.proof(0, 7, 2));
         refused(x, "no total, missing", ISE, () -> x.proof(3, 7, 2));
         refused(x, "no total, d 0", IAE, () -> x.proof(3, 7, 0));
+    }
+
+    private static void proofsAtTheEdges() {
+        CoalStreet x = Streets.trusting(1, 1, 1, 0);
+        Streets.tell(x, "step 1 10;step 2 6;gather 1;");
+        // As restless, with a fourth one who wants nothing, and costs nothing alone.
+        put(x, 0, 3, 3, 1, 5, 1, 6, 1);
+        due("the fourth one has none", 0, () -> x.proof(0, 15, 2));
+        put(x, 0, 3, 3, 1, 5, 1, 6, 1, 8, 100000);
+        due("the greatest number", 1, () -> x.proof(0, 15, 2));
+        put(x, 0, 3, 3, 1, 5, 1, 6, 1, 8, 100001);
+        due("a greater one", 0, () -> x.proof(0, 15, 2));
+        put(x, 0, 3, 3, 1, 5, 1, 6, 1, 8, 2, 1, 0);
+        due("set 1 with 0", 1, () -> x.proof(0, 15, 2));
+        put(x, 0, 3, 3, 1, 5, 1, 6, 1, 8, 3, 8, -1);
+        due("a number below 0", 0, () -> x.proof(0, 15, 2));
+        put(x, 0, 3, 3, 1, 5, 1, 6, 1, 8, 0);
+        due("of three, a set with a fourth one", 0, () -> x.proof(0, 7, 2));
+        x.house(0);
+        for (int i = 0; i < 3; i++) {
+            x.trust(4, i, true);
+            x.trust(i, 4, true);
+        }
+        x.want(4, 0, 1);
+        // Households 0, 1 and 4; 2 isn't of them.
+        put(x, 0, 3, 3, 1, 17, 1, 18, 1);
+        due("others of three", 1, () -> x.proof(0, 19, 2));
+        put(x, 0, 3, 3, 1, 17, 1, 18, 1, 4, 0);
+        due("a set between that isn't of them", 0, () -> x.proof(0, 19, 2));
+        put(x, 0, 3, 3, 1, 17, 1, 18, 1, 5, 0);
+        due("a set that isn't wholly of them", 0, () -> x.proof(0, 19, 2));
     }
 
     private static void ruled() {
@@ -1107,6 +1158,11 @@ public final class PromisesTest {
         });
         // 5 sacks for 10 and 5 more, less 2.
         due("of four", 65, () -> x.seller(15, 10, 2, 3));
+        due("another p", 5 * 12 + 5 * 5 - 10, () -> x.seller(14, 12, 2, 3));
+        due("p as before", 5 * 10 + 5 * 5 - 10, () -> x.seller(14, 10, 2, 3));
+        due("another k", 5 * 10 + 5 * 5 - 15, () -> x.seller(14, 10, 3, 3));
+        due("another set", 3 * 15 - 9, () -> x.seller(4, 10, 3, 3));
+        sellersSeeChanges();
         refused(x, "of five", IAE, () -> x.seller(31, 10, 3, 0));
         refused(x, "no set", IAE, () -> x.seller(0, 10, 3, 0));
         refused(x, "no set", IAE, () -> x.seller(32, 10, 3, 0));
@@ -1116,6 +1172,28 @@ public final class PromisesTest {
         refused(x, "k 21", IAE, () -> x.seller(1, 10, 21, 0));
         refused(x, "what -1", IAE, () -> x.seller(1, 10, 3, -1));
         refused(x, "what 4", IAE, () -> x.seller(1, 10, 3, 4));
+    }
+
+    private static void sellersSeeChanges() {
+        CoalStreet x = Streets.trusting(1, 1);
+        Streets.tell(x, "cart 2 30;");
+        due("in one cart", 50, () -> x.seller(3, 10, 0, 3));
+        x.trust(0, 1, false);
+        x.trust(1, 0, false);
+        due("without trust in two", 80, () -> x.seller(3, 10, 0, 3));
+        x.trust(1, 0, true);
+        due("in one again", 50, () -> x.seller(3, 10, 0, 3));
+        x.bar(1, 0);
+        due("barred in two", 80, () -> x.seller(3, 10, 0, 3));
+        x.want(1, 0, 2);
+        due("one wants more", 90, () -> x.seller(3, 10, 0, 3));
+        Streets.tell(x, "cart 2 20;");
+        due("carts cost less", 70, () -> x.seller(3, 10, 0, 3));
+        x.cellar(1, 8);
+        due("cellars alone don't change it", 70, () -> x.seller(3, 10, 0, 3));
+        x.tray(0, 0, 1);
+        x.take(0, 1);
+        due("one wants nothing", 30, () -> x.seller(3, 10, 0, 3));
     }
 
     private static void trays() {
@@ -1251,25 +1329,30 @@ public final class PromisesTest {
 
     /** Two images of which each holds its own doubts of one household. */
     private static void imagesOfDoubts() {
-        CoalStreet x = Streets.trusting(0);
+        imagesOfDoubtsOf(0);
+        imagesOfDoubtsOf(6);
+    }
+
+    private static void imagesOfDoubtsOf(int house) {
+        CoalStreet x = Streets.trusting(0, 0, 0, 0, 0, 0, 0);
         Streets.tell(x, "late 1;");
         x.image(0);
-        x.doubt(0, 4, 1);
-        x.doubt(0, 8, 1);
+        x.doubt(house, 4, 1);
+        x.doubt(house, 8, 1);
         x.image(1);
         x.restore(0);
-        x.doubt(0, 1, 5);
-        x.doubt(0, 2, 5);
+        x.doubt(house, 1, 5);
+        x.doubt(house, 2, 5);
         x.image(2);
         x.restore(1);
-        x.risk(1, 0);
+        x.risk(1 << house, 0);
         fraction(x, "the doubts of image 1", 6, 1);
         x.restore(2);
-        x.risk(1, 0);
+        x.risk(1 << house, 0);
         fraction(x, "the doubts of image 2", 3, 2);
         x.restore(1);
-        x.doubt(0, 0, 7);
-        x.risk(1, 0);
+        x.doubt(house, 0, 7);
+        x.risk(1 << house, 0);
         fraction(x, "the chances of image 1", 4, 3);
     }
 
