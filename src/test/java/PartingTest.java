@@ -10,7 +10,7 @@ public final class PartingTest {
     private static int least = 0;
 
     public static void main(String[] args) {
-        int many = args.length > 0 ? Integer.parseInt(args[0]) : 900;
+        int many = args.length > 0 ? Integer.parseInt(args[0]) : 2400;
         for (int seed = 1; seed <= many; seed++) {
             look(seed, seed % 30 == 0 ? 5 : seed % 10 == 0 ? 2 : 3 + seed % 2);
         }

@@ -627,6 +627,10 @@ public final class PromisesTest {
         due("1 and 3", 1, () -> x.group(15, 3));
         refused(x, "group(0, 0)", IAE, () -> x.group(0, 0));
         refused(x, "group(16, 0)", IAE, () -> x.group(16, 0));
+        CoalStreet y = Streets.trusting(1, 1, 1, 1, 1, 1, 1);
+        Streets.tell(y, "step 1 10;gather 1;");
+        due("seven alone", 7, () -> y.group(127, -1));
+        due("the last of seven", 6, () -> y.group(127, 6));
         Streets.tell(x, "");
         due("no total", -1, () -> x.group(15, 0));
         due("no total", -1, () -> x.group(15, -1));
@@ -887,6 +891,8 @@ public final class PromisesTest {
         due("a set told twice, and one with 0", 1, () -> x.proof(0, 7, 1000));
         put(x, 1, 2, 3, 1, 5, 1, 6);
         due("it ends behind a set", 0, () -> x.proof(1, 7, 2));
+        put(x, 1, 2, 3, 1, 5, 1, 6, 1, 7);
+        due("it ends behind a set that isn't needed", 0, () -> x.proof(1, 7, 2));
         put(x, 1, 2, 3, 1, 5, 1, 6, 1, 8, 0);
         due("a set that isn't of these", 0, () -> x.proof(1, 7, 2));
         put(x, 1, 2, 3, 1, 5, 1, 6, 1, 0, 0);
