@@ -1201,14 +1201,29 @@ public final class CoalStreet {
 
     // TOTALS and GROUPS of a set and of all sets in it.
     private static final class Groups {
+        private static final int DIGIT = 3;
+        private static final int LAST = (1 << DIGIT) - 1;
+
         final Plans plans;
         final int[] costs = new int[SETS];
         final int[] totals = new int[SETS];
-        // Of the best parting of each set the group of its least household.
+        // Of the best parting of each set: the group of its least household, and the row of numbers of groups, as one
+        // number with DIGIT bits for each household, those of the first one the highest, 0 for those not in the set.
         private final int[] firsts = new int[SETS];
+        private final int[] rows = new int[SETS];
+        // A row with a 1 for each household of a set.
+        private final int[] ones = new int[SETS];
 
         Groups(Plans plans) {
             this.plans = plans;
+            for (int set = 1; set < SETS; set++) {
+                int lowest = Integer.numberOfTrailingZeros(set);
+                ones[set] = ones[set & (set - 1)] | 1 << shiftOf(lowest);
+            }
+        }
+
+        private static int shiftOf(int house) {
+            return (HOUSES - 1 - house) * DIGIT;
         }
 
         // Whether the set has a TOTAL; costs and totals of all sets in it stand then.
@@ -1223,28 +1238,28 @@ public final class CoalStreet {
         }
 
         private void part(int set) {
-            int least = FAR;
-            int first = 0;
+            totals[set] = FAR;
+            firsts[set] = 0;
+            rows[set] = 0;
             int low = set & -set;
             for (int group = set; group > 0; group = (group - 1) & set) {
-                if ((group & low) == 0 || costs[group] == NONE) {
-                    continue;
-                }
-                int sum = costs[group] + totals[set ^ group];
-                if (sum < least || sum == least && isAhead(group, first)) {
-                    least = sum;
-                    first = group;
+                if ((group & low) != 0 && costs[group] != NONE) {
+                    keepIfAhead(set, group);
                 }
             }
-            totals[set] = least;
-            firsts[set] = least >= FAR ? 0 : first;
         }
 
-        // Whether a parting that begins with one group has the first row of numbers: its least household that isn't
-        // in both groups is in this one, so its number is 0 there and more in the other one.
-        private static boolean isAhead(int one, int other) {
-            int apart = one ^ other;
-            return (one & apart & -apart) != 0;
+        // The best parting that begins with a group: behind it goes the best one of the rest, each group numbered one
+        // more. The first group alone doesn't tell which row is ahead: others may differ at a lower household.
+        private void keepIfAhead(int set, int group) {
+            int rest = set ^ group;
+            int total = costs[group] + totals[rest];
+            int row = rows[rest] + ones[rest];
+            if (total < totals[set] || total < FAR && total == totals[set] && row < rows[set]) {
+                totals[set] = total;
+                firsts[set] = group;
+                rows[set] = row;
+            }
         }
 
         int howMany(int set) {
@@ -1258,14 +1273,7 @@ public final class CoalStreet {
         }
 
         int numberOf(int set, int house) {
-            int rest = set;
-            for (int i = 0; i < HOUSES && rest != 0; i++) {
-                if (isOf(firsts[rest], house)) {
-                    return i;
-                }
-                rest ^= firsts[rest];
-            }
-            return NONE;
+            return isOf(set, house) ? rows[set] >> shiftOf(house) & LAST : NONE;
         }
 
         int sacksOf(int set) {
