@@ -1081,13 +1081,13 @@ public final class CoalStreet {
     // with one cost the one with fewer sacks is worth less.
     private static final class Plans {
         private static final int UNIT = 512;
+        private static final int UNKNOWN = -1;
         private static final int WIDE = HOUSES * SACKS + 1;
 
         private final Street street;
         private final Tariff tariff;
         private final Prices prices;
         private final int[] worths = new int[SETS];
-        private final boolean[] known = new boolean[SETS];
         // For each month and each number of sacks kept till then: the least worth from then on, with their keeping.
         private final int[] table = new int[(MONTHS + 1) * WIDE];
         // The worth of buying so many sacks in the month that is looked at.
@@ -1097,16 +1097,17 @@ public final class CoalStreet {
             this.street = street;
             this.tariff = tariff;
             this.prices = prices;
+            Arrays.fill(worths, UNKNOWN);
         }
 
         void forgetAll() {
-            Arrays.fill(known, false);
+            Arrays.fill(worths, UNKNOWN);
         }
 
         void forget(int house) {
             for (int set = 0; set < SETS; set++) {
                 if (isOf(set, house)) {
-                    known[set] = false;
+                    worths[set] = UNKNOWN;
                 }
             }
         }
@@ -1127,7 +1128,7 @@ public final class CoalStreet {
 
         int sacksIn(int set, int month) {
             int room = street.cellarsOf(set);
-            known[set] = false;
+            worths[set] = UNKNOWN;
             worthOf(set);
             int kept = 0;
             int sacks = 0;
@@ -1142,7 +1143,7 @@ public final class CoalStreet {
         }
 
         private int worthOf(int set) {
-            if (known[set]) {
+            if (worths[set] != UNKNOWN) {
                 return worths[set];
             }
             int room = street.cellarsOf(set);
@@ -1160,7 +1161,6 @@ public final class CoalStreet {
                 }
             }
             worths[set] = table[0];
-            known[set] = true;
             return table[0];
         }
 

@@ -116,6 +116,10 @@ public final class FaceTest {
             Matcher m = Pattern.compile(word).matcher(bare);
             Check.same("the source holds " + word, false, m.find());
         }
+        Matcher flags = Pattern.compile("boolean\\[\\] (\\w+)").matcher(bare);
+        while (flags.find()) {
+            Check.same("fill over the flags " + flags.group(1), false, bare.contains("fill(" + flags.group(1)));
+        }
         for (int i = 0; i < text.length(); i++) {
             if (text.charAt(i) > 126 || text.charAt(i) < 32 && text.charAt(i) != '\n') {
                 Check.same("the source's sign at " + i, "a plain one", (int) text.charAt(i));

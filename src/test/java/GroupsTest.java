@@ -19,7 +19,7 @@ public final class GroupsTest {
     }
 
     private void look(Random dice, int seed, int n) {
-        boolean cellars = dice.nextInt(3) == 0;
+        boolean cellars = dice.nextBoolean();
         for (int i = 0; i < n; i++) {
             int room = cellars ? dice.nextInt(4) : 0;
             x.house(room);
@@ -28,12 +28,28 @@ public final class GroupsTest {
             x.want(i, 0, sacks);
             y.want(i, 0, sacks);
         }
-        // A newcomer, and few groups that may buy: with many the first of like partings is soon all in one.
+        bonds(dice, n);
+        tell(text(dice));
+        int all = (1 << n) - 1;
+        compare("seed " + seed, all, n);
+        compare("seed " + seed, all ^ 1 << dice.nextInt(n), n);
+        compare("seed " + seed, 1 + dice.nextInt(all), n);
+        if (seed % 4 == 0) {
+            compareSeller("seed " + seed, dice, 15);
+        }
+    }
+
+    /**
+     * Few groups that may buy: with many the first of like partings is soon all in one. In half of the streets they
+     * are round one that all trust, with a high number: then first groups part late, others of them early.
+     */
+    private void bonds(Random dice, int n) {
         int trust = 1 + dice.nextInt(4);
-        int bars = dice.nextInt(3);
+        int bars = dice.nextInt(4);
+        int hub = dice.nextBoolean() ? n - 1 - dice.nextInt(2) : -1;
         for (int i = 0; i < n; i++) {
             for (int j = 0; j < n; j++) {
-                if (i != j && dice.nextInt(10) < trust) {
+                if (i != j && dice.nextInt(10) < (j == hub ? 9 : trust)) {
                     x.trust(i, j, true);
                     y.trust(i, j, true);
                 }
@@ -42,14 +58,6 @@ public final class GroupsTest {
                     y.bar(i, j);
                 }
             }
-        }
-        tell(text(dice));
-        int all = (1 << n) - 1;
-        compare("seed " + seed, all, n);
-        compare("seed " + seed, all ^ 1 << dice.nextInt(n), n);
-        compare("seed " + seed, 1 + dice.nextInt(all), n);
-        if (seed % 8 == 0) {
-            compareSeller("seed " + seed, dice, 15);
         }
     }
 
@@ -90,8 +98,8 @@ public final class GroupsTest {
     }
 
     private void compareSeller(String seed, Random dice, int set) {
-        int p = 2 + dice.nextInt(4);
-        int k = dice.nextInt(6);
+        int p = 2 + dice.nextInt(3);
+        int k = dice.nextInt(8);
         for (int what = 0; what < 4; what++) {
             int which = what;
             Check.due(seed + ", seller of " + p + ", " + k + ", " + what, y.seller(set, p, k, what),

@@ -30,6 +30,7 @@ public final class PromisesTest {
         bought();
         leasts();
         groups();
+        firstRows();
         comes();
         joins();
         fractions();
@@ -634,6 +635,60 @@ public final class PromisesTest {
         Streets.tell(x, "");
         due("no total", -1, () -> x.group(15, 0));
         due("no total", -1, () -> x.group(15, -1));
+    }
+
+    /** Four of whom the last one is trusted by all, but 0 is barred from 1 and 2; a newcomer who trusts the last one. */
+    private static CoalStreet aroundThree(int[] cellars, int[] wants) {
+        CoalStreet x = new CoalStreet();
+        for (int i = 0; i < 5; i++) {
+            x.house(cellars[i]);
+            x.want(i, 0, wants[i]);
+        }
+        for (int i = 0; i < 5; i++) {
+            if (i != 3) {
+                x.trust(i, 3, true);
+            }
+        }
+        x.bar(0, 1);
+        x.bar(0, 2);
+        return x;
+    }
+
+    private static void rowOf(CoalStreet x, int set, int... row) {
+        for (int i = 0; i < row.length; i++) {
+            int house = i;
+            due("group of " + i + " in " + set, row[i], () -> x.group(set, house));
+        }
+    }
+
+    private static void firstRows() {
+        CoalStreet x = aroundThree(new int[5], new int[] {1, 1, 1, 1, 5});
+        Streets.tell(x, "step 1 10;step 8 9;");
+        // All partings of 0 to 3 cost 40: 0 1 1 1 is ahead of 0 1 2 0, though that one has more in its first group.
+        due("0 alone and the others", 2, () -> x.group(15, -1));
+        rowOf(x, 15, 0, 1, 1, 1, -1, -1, -1);
+        rowOf(x, 14, -1, 0, 0, 0);
+        rowOf(x, 13, 0, -1, 1, 0);
+        rowOf(x, 11, 0, 1, -1, 0);
+        rowOf(x, 9, 0, -1, -1, 0);
+        rowOf(x, 7, 0, 1, 2);
+        // 4 alone adds 50, to 1, 2 and 3 (8 sacks for 72) 42; to 0 and 3 it would add 50.
+        due("to a group of the first row", 1, () -> x.come(15, 4));
+        x.bar(1, 2);
+        // Now 1 and 2 can't be together: 0 1 2 0, 0 1 2 1, 0 1 2 2 and 0 1 2 3 are left.
+        rowOf(x, 15, 0, 1, 2, 0);
+        due("three", 3, () -> x.group(15, -1));
+        x.bar(0, 3);
+        rowOf(x, 15, 0, 1, 2, 1);
+        x.bar(1, 3);
+        rowOf(x, 15, 0, 1, 2, 2);
+        x.bar(2, 3);
+        rowOf(x, 15, 0, 1, 2, 3);
+        CoalStreet y = aroundThree(new int[] {0, 1, 3, 0, 0}, new int[] {1, 2, 3, 3, 0});
+        // From 3 on 1: 0 1 1 1 (2 + 8 for 9 sacks) is ahead of 0 1 2 0 (4 + 3 + 3 for 10), as 1 keeps one there.
+        due("n by the sacks of the first row", 3, () -> y.seller(15, 2, 5, 0));
+        due("r", 1, () -> y.seller(15, 2, 5, 1));
+        due("gain", 10 - 5 * 9, () -> y.seller(15, 2, 5, 2));
     }
 
     private static void comes() {
