@@ -28,6 +28,8 @@ public final class EdgesOfDoubtTest {
         beforeSets();
         beforeLeastOfLike();
         beforeFirstAndLast();
+        beforeEachNumber();
+        beforeInTheFirstMonth();
         beforeSkipsWhatCanNotBe();
         sellerSets();
         sellerPrice();
@@ -247,7 +249,7 @@ public final class EdgesOfDoubtTest {
         }
         // In the mean 6 each.
         risked("none bought", x, 127, 0, 42 * 999, 1);
-        // By all of the seven that want 8 (3 of 4 each): 56 bought, in the mean 14 left.
+        // In the mean 14 are left.
         risked("all bought", x, 127, 56, 56 * 297 + 14 * 99, 1);
         CoalStreet y = told("late 1;", new int[7]);
         for (int i = 0; i < 7; i++) {
@@ -288,7 +290,7 @@ public final class EdgesOfDoubtTest {
         before("a sack costs less than late", told("step 1 10;late 11;", 8), 1, 8, 80, 1);
         before("a sack costs more than late", told("step 1 11;late 10;", 8), 1, 0, 80, 1);
         before("nothing costs anything", told("", 8), 1, 0, 0, 1);
-        // 0: 30, 3 and more at 5: 15 and 20 and ..
+        // None 30, 3 at 5 are 15, 6 at 2 are 12.
         before("3 and 6 as by steps", told("step 3 5;step 6 2;late 10;", 3), 1, 6, 12, 1);
         before("3 of like ones", told("step 3 4;step 6 2;late 10;", 3), 1, 3, 12, 1);
         CoalStreet x = told("step 1 10;late 20;", 0);
@@ -303,11 +305,26 @@ public final class EdgesOfDoubtTest {
         before("all is wanted of one", told("step 1 1;late 999;", 8), 1, 8, 8, 1);
         before("all is wanted of seven", told("step 1 1;late 999;", 8, 8, 8, 8, 8, 8, 8), 127, 56, 56, 1);
         before("all is wanted of the last", told("step 1 1;late 999;", 0, 0, 0, 0, 0, 0, 8), 64, 8, 8, 1);
-        // 8 are left of which none is wanted: still the cheapest, as 1 is late.
+        // 7 are left, but 1 that is late would cost far more.
         before("the last q is the least", told("step 8 1;late 999;", 1), 1, 8, 8, 1);
         before("more than that can't be bought", told("step 9 1;late 999;", 1), 1, 0, 999, 1);
         before("of two it can", told("step 9 1;late 999;", 1, 0), 3, 9, 9, 1);
         before("the last one of two", told("step 16 1;late 999;", 1, 0), 3, 16, 16, 1);
+    }
+
+    /** Each q from the first to the last can be the one. */
+    private static void beforeEachNumber() {
+        for (int want = 0; want <= 8; want++) {
+            CoalStreet x = told("step 1 2;late 3;keep 1;", want, 8);
+            before("as many as are wanted", x, 1, want, 2 * want, 1);
+            before("as many as both want", x, 3, want + 8, 2 * want + 16, 1);
+        }
+    }
+
+    private static void beforeInTheFirstMonth() {
+        before("the rise of MONTH 0", told("step 1 2;rise 0 5;late 7;", 3), 1, 0, 21, 1);
+        before("less than late with the rise", told("step 1 2;rise 0 5;rise 1 99;late 8;months 2;", 3), 1, 3, 21, 1);
+        before("the rise of another MONTH", told("step 1 2;rise 1 99;rise 5 99;late 7;months 6;", 3), 1, 3, 6, 1);
     }
 
     private static void beforeSkipsWhatCanNotBe() {
@@ -361,7 +378,7 @@ public final class EdgesOfDoubtTest {
     }
 
     private static void sellerWhat() {
-        // 3 sacks from 4 on for 9 are 27, but 3 from 1 on at 10 are 30: as no step is reached, the first one that isn't.
+        // Each step that is reached lowers what 3 sacks cost: the first one that isn't is from 4 on.
         int[] due = {4, 1, 30, 30};
         for (int what = 0; what <= 3; what++) {
             int w = what;
@@ -416,7 +433,7 @@ public final class EdgesOfDoubtTest {
         due("r", 1, () -> x.seller(3, 10, 0, 1));
         due("11 at 10", 110, () -> x.seller(3, 10, 0, 2));
         CoalStreet y = told("", 8, 4);
-        // From 12 on 9 it is 108; from less on less than 12 of 9; r 9 from 2 on as well, and n is the least.
+        // All steps are reached by 12 together, from 2 on as well as from 12 on.
         due("all n are reached", 2, () -> y.seller(3, 10, 0, 0));
         due("p less 1", 9, () -> y.seller(3, 10, 0, 1));
         due("12 at 9", 108, () -> y.seller(3, 10, 0, 2));
@@ -471,7 +488,7 @@ public final class EdgesOfDoubtTest {
 
     private static void sellerLosses() {
         CoalStreet x = told("", 8, 8, 8, 8);
-        // 32 sacks at 1 less 20 each, from 2 on; p alone at 2 less 20 each.
+        // 32 sacks at 1, as each step is reached; by p alone at 2.
         due("the least loss", 32 - 640, () -> x.seller(15, 2, 20, 2));
         due("p alone", 64 - 640, () -> x.seller(15, 2, 20, 3));
         CoalStreet y = told("", 0);

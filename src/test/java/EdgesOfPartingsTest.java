@@ -52,6 +52,7 @@ public final class EdgesOfPartingsTest {
         proofEmpty();
         proofLongest();
         proofSetsThatAreNone();
+        proofSetsOfOthers();
         proofSetsWithoutCost();
         proofNumbers();
         proofCovers();
@@ -345,6 +346,9 @@ public final class EdgesOfPartingsTest {
             Twins.stays("judge without TOTAL", ISE, maker, x -> x.judge(some));
         }
         due("with one", -2, () -> maker.get().judge(7));
+        Twins.wrongSets("judge without TOTAL", 3, () -> told("", 1, 1, 1), CoalStreet::judge);
+        Twins.wrongSets("keeps without TOTAL", 3, () -> told("", 1, 1, 1), CoalStreet::keeps);
+        Twins.wrongSets("ruled without TOTAL", 3, () -> told("", 1, 1, 1), (x, set) -> ruled(x, set, 0));
     }
 
     // ---- promise 25: "Whether a PARTING of a set HOLDS; MISSING is the FRACTION. IllegalArgumentException: also if it
@@ -407,7 +411,7 @@ public final class EdgesOfPartingsTest {
         fraction("of four nothing is missing", x, 0, 1);
         due("can of five", false, () -> x.can(31));
         fraction("36 less 32 and a half", x, 7, 2);
-        // Alone 1 and 8, together 11: they are apart, and nothing is missing.
+        // Alone 1 and 8, together 9 and 2: they are apart, and nothing is missing.
         CoalStreet y = told("step 1 1;gather 2;", 1, 8);
         due("apart", true, () -> y.can(3));
         fraction("nothing is missing", y, 0, 1);
@@ -698,6 +702,18 @@ public final class EdgesOfPartingsTest {
             proofBy("set " + set + " with 0 ahead", false, 3, set, 0, 3, 1, 5, 1, 6, 1);
         }
         proofBy("8 bits that are below 0", false, 0, 3, 1, 5, 1, 6, 1, 255, 0);
+    }
+
+    /** Sets below the set's number that aren't of it. */
+    private static void proofSetsOfOthers() {
+        CoalStreet x = pairs(4);
+        for (int sub = 1; sub <= 15; sub++) {
+            // Households 0, 1 and 3.
+            Twins.lay(x, 1, 0, 3, 1, 9, 1, 10, 1, sub, 0);
+            due("set " + sub + " for 0, 1 and 3", (sub & 4) == 0, () -> x.proof(1, 11, 2));
+            Twins.lay(x, 1, 0, 6, 1, 10, 1, 12, 1, sub, 0);
+            due("set " + sub + " for 1, 2 and 3", (sub & 1) == 0, () -> x.proof(1, 14, 2));
+        }
     }
 
     private static void proofSetsWithoutCost() {

@@ -30,6 +30,8 @@ public final class EdgesOfSetsTest {
         boughtThrowsInOrder();
         boughtFewest();
         boughtFirstRow();
+        boughtAhead();
+        boughtOfEachSet();
         leastOfParts();
         leastNone();
         groupHowMany();
@@ -361,7 +363,7 @@ public final class EdgesOfSetsTest {
         // 6 for 54 at once, 9 for 36 at once with 6 left then.
         due("9 in all", 9, () -> x.bought(1, -1));
         x.cellar(0, 5);
-        // 8 at most at once: 6 in month 0 (54), or 4 and 4..
+        // Now no 9 at once: 6 in month 0.
         due("6 in all", 6, () -> x.bought(1, -1));
         due("6 in month 0", 6, () -> x.bought(1, 0));
         due("0 in month 1", 0, () -> x.bought(1, 1));
@@ -386,6 +388,47 @@ public final class EdgesOfSetsTest {
         Streets.tell(x, "step 1 10;step 3 9;months 4;");
         // 3 0 4 0, 3 4 0 0, 4 0 3 0, 4 3 0 0 and 7 0 0 0 are 63 each; 1 3 3 0 and 3 0 3 1 are 64.
         rowOf(x, 1, 3, 0, 4, 0);
+    }
+
+    /** More is kept than is wanted next, and other months are dearer. */
+    private static void boughtAhead() {
+        CoalStreet x = cellars(8);
+        wants(x, 0, 1, 1, 1, 1, 1, 1);
+        Streets.tell(x, "step 1 10;step 6 5;months 6;");
+        rowOf(x, 1, 6, 0, 0, 0, 0, 0);
+        wants(x, 0, 1, 2, 1, 2, 1, 2);
+        // 9 at once, of which 8 are left.
+        rowOf(x, 1, 9, 0, 0, 0, 0, 0);
+        x.cellar(0, 5);
+        // 6 in month 0 last till month 3 (60 in all), 7 in month 1 till month 4 (55).
+        rowOf(x, 1, 1, 7, 0, 0, 0, 1);
+        Streets.tell(x, "step 1 10;months 6;rise 0 3;rise 1 2;rise 2 1;rise 3 9;rise 4 9;rise 5 9;");
+        rowOf(x, 1, 1, 2, 6, 0, 0, 0);
+        Streets.tell(x, "step 1 10;months 6;rise 0 3;rise 1 2;rise 2 9;rise 3 1;rise 4 9;keep 1;");
+        rowOf(x, 1, 1, 3, 0, 3, 0, 2);
+        Streets.tell(x, "step 1 10;months 6;rise 1 9;rise 2 9;rise 3 9;rise 4 9;rise 5 9;");
+        rowOf(x, 1, 6, 0, 0, 0, 1, 2);
+        x.cellar(0, 0);
+        rowOf(x, 1, 1, 2, 1, 2, 1, 2);
+    }
+
+    /** One set after another one, each with its own cellars. */
+    private static void boughtOfEachSet() {
+        CoalStreet x = cellars(0, 2, 8);
+        trustAll(x, true);
+        for (int h = 0; h < 3; h++) {
+            wants(x, h, 1, 1, 1);
+        }
+        Streets.tell(x, "step 1 10;months 3;rise 1 5;rise 2 9;");
+        int[][] due = {{1, 1, 1}, {3, 0, 0}, {4, 2, 0}, {3, 0, 0}, {6, 0, 0}, {6, 0, 0}, {9, 0, 0}};
+        for (int round = 0; round < 2; round++) {
+            for (int set = 1; set <= 7; set++) {
+                int some = set;
+                int other = 8 - set;
+                due("cost of another one", true, () -> x.cost(other) > 0);
+                rowOf(x, some, due[set - 1]);
+            }
+        }
     }
 
     private static void rowOf(CoalStreet x, int set, int... row) {
@@ -480,10 +523,27 @@ public final class EdgesOfSetsTest {
         groups(x, 7, 0, 1, 2);
         CoalStreet y = Streets.trusting(2, 1, 1, 2);
         Streets.tell(y, "step 1 10;step 3 8;gather 8;");
-        // Threes spare 6, fours 8, sixes 12, a group more costs 8: none together, but 0 and 3 (4 sacks) are 40 as well.
+        // 0 and 3 together are 32 and 8, as much as 20 and 20 alone; any others together are more than alone.
         groups(y, 15, 0, 1, 2, 0);
         groups(y, 9, 0, -1, -1, 0);
         groups(y, 6, -1, 0, 1, -1);
+        CoalStreet z = cellars(0, 0, 0, 0, 0);
+        for (int h = 0; h < 5; h++) {
+            z.want(h, 0, 1);
+        }
+        z.trust(3, 0, true);
+        z.trust(2, 1, true);
+        z.trust(4, 3, true);
+        z.trust(4, 2, true);
+        Streets.tell(z, "step 1 10;");
+        // All cost 50; with 0 just 3 can be: 0 1 1 0 2 and 0 1 1 2 2 are ahead of 0 1 2 0 2.
+        groups(z, 31, 0, 1, 1, 0, 2);
+        z.bar(0, 3);
+        groups(z, 31, 0, 1, 1, 2, 2);
+        z.bar(1, 2);
+        groups(z, 31, 0, 1, 2, 3, 2);
+        z.bar(2, 4);
+        groups(z, 31, 0, 1, 2, 3, 3);
     }
 
     private static void groups(CoalStreet x, int set, int... row) {
@@ -521,7 +581,7 @@ public final class EdgesOfSetsTest {
         Streets.tell(x, "step 1 10;gather 1;");
         due("alone adds less", 2, () -> x.come(3, 2));
         Streets.tell(x, "step 1 10;step 3 9;gather 1;");
-        // 10 and 10, or three in one for 27 + 2: 9 more than 20 together, but they are each alone: 20 + 1 for two.
+        // Three in one would be 27 and 2, but 0 and 1 are each alone: with one of them it is 20 and 1.
         due("they buy alone: two add 11", 2, () -> x.come(3, 2));
         Streets.tell(x, "step 1 10;step 2 9;");
         due("the group adds less", 0, () -> x.come(1, 2));

@@ -44,6 +44,7 @@ public final class EdgesOfTariffTest {
         priceOfSteps();
         priceAbove();
         priceNone();
+        priceOfALaterTariff();
         priceCarts();
         buysBounds();
         buysOfNone();
@@ -534,6 +535,22 @@ public final class EdgesOfTariffTest {
         Streets.feed(x, "w");
         due("of one byte", -12, () -> x.text(1));
         due("it is a word that isn't known", 0, () -> x.fault(1));
+        // What stands on the tape behind the text isn't of it: not a fourth digit, a letter, a sign.
+        Streets.feed(x, "late 5555;");
+        due("three digits of four", -12, () -> x.text(8));
+        due("the text's length", 8, () -> x.fault(1));
+        Streets.feed(x, "late 5;late");
+        due("a line of more", 1, () -> x.text(7));
+        due("late", 5, () -> x.count(7));
+        Streets.feed(x, "rule alones;");
+        due("a word of more letters", -12, () -> x.text(10));
+        due("the text's length", 10, () -> x.fault(1));
+        Streets.feed(x, " ".repeat(292) + "late 555");
+        due("300 bytes that end with a digit", -12, () -> x.text(300));
+        due("the text's length", 300, () -> x.fault(1));
+        Streets.feed(x, " ".repeat(290) + "rule alone");
+        due("300 bytes that end with a letter", -12, () -> x.text(300));
+        due("the text's length", 300, () -> x.fault(1));
         Streets.feed(x, " ".repeat(290) + "late 5    ");
         due("300 bytes", -12, () -> x.text(300));
         due("the text's length", 300, () -> x.fault(1));
@@ -623,6 +640,30 @@ public final class EdgesOfTariffTest {
             due("above, the step of 1 missing", -1, () -> x.price(q));
             due("whole, the step of q missing", q < 60 ? -1 : 9 * q, () -> y.price(q));
             due("no step at all, but a cart", -1, () -> z.price(q));
+        }
+    }
+
+    /** What an earlier TARIFF told of prices is gone. */
+    private static void priceOfALaterTariff() {
+        String[] texts = {"above;step 1 9;", "", "step 1 9;", "above;", "above;step 2 9;step 3 1;", "above;step 1 7;step 2 1;",
+            "step 60 1;", "step 1 9;cart 1 1;"};
+        int[][] due = {{9, 18, 540}, {-1, -1, -1}, {9, 18, 540}, {-1, -1, -1}, {-1, -1, -1}, {7, 8, 66}, {-1, -1, 60},
+            {10, 20, 600}};
+        CoalStreet x = new CoalStreet();
+        for (int i = 0; i < texts.length; i++) {
+            for (int j = 0; j < texts.length; j++) {
+                priced(x, texts[i], due[i]);
+                priced(x, texts[j], due[j]);
+            }
+        }
+    }
+
+    private static void priced(CoalStreet x, String text, int[] due) {
+        Streets.tell(x, text);
+        int[] sacks = {1, 2, 60};
+        for (int i = 0; i < 3; i++) {
+            int q = sacks[i];
+            due("price of " + q + " by " + text, due[i], () -> x.price(q));
         }
     }
 

@@ -42,6 +42,7 @@ public final class EdgesOfTraysTest {
         imageHoldsAll();
         imageHoldsNotTheseFour();
         imageIsNotChanged();
+        imageHoldsItsDoubts();
         restoreNumbers();
         restoreNoneWasMade();
         restoreTakesHouseholdsAway();
@@ -563,6 +564,40 @@ public final class EdgesOfTraysTest {
             due("rule of the other one", 1, () -> x.count(6));
             due("the third one wasn't made", ISE, () -> restore(x, (one + 2) % 3));
         }
+    }
+
+    /** Two images of which each holds its own DOUBTS of one household, in the same places. */
+    private static void imageHoldsItsDoubts() {
+        for (int h = 0; h < 7; h++) {
+            CoalStreet x = Streets.trusting(new int[7]);
+            Streets.tell(x, "late 1;");
+            x.image(0);
+            doubts(x, h, 4, 1, 8, 1);
+            x.image(1);
+            x.restore(0);
+            doubts(x, h, 1, 5, 2, 5);
+            x.image(2);
+            x.restore(1);
+            risked(x, h, 6, 1);
+            x.restore(2);
+            risked(x, h, 3, 2);
+            x.restore(1);
+            x.doubt(h, 0, 7);
+            risked(x, h, 4, 3);
+            x.restore(0);
+            risked(x, h, 0, 1);
+        }
+    }
+
+    private static void doubts(CoalStreet x, int house, int... pairs) {
+        for (int i = 0; i < pairs.length; i += 2) {
+            x.doubt(house, pairs[i], pairs[i + 1]);
+        }
+    }
+
+    private static void risked(CoalStreet x, int house, long upper, long lower) {
+        x.risk(1 << house, 0);
+        Check.same("what " + house + " wants in the mean", upper + "/" + lower, x.upper() + "/" + x.lower());
     }
 
     private static void restoreNumbers() {
