@@ -521,7 +521,7 @@ public final class SentencesOfSetsTest {
             answers(asked);
             changes[i].of(asked);
             changes[i].of(fresh);
-            Check.same("answers behind change " + i, answers(fresh), answers(asked));
+            Twins.like("answers behind change " + i, answers(fresh), answers(asked));
         }
     }
 }

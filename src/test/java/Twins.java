@@ -34,13 +34,16 @@ final class Twins {
     static void stays(String what, Object want, Supplier<CoalStreet> maker, Use use) {
         CoalStreet x = maker.get();
         Check.due(what, want, () -> use.of(x));
-        String due = all(maker.get());
-        String got = all(x);
+        like(what + ": all is as without it", all(maker.get()), all(x));
+    }
+
+    /** Two long texts are one; else the first place where they differ is shown. */
+    static void like(String what, String due, String got) {
         int at = 0;
         while (at < due.length() && at < got.length() && due.charAt(at) == got.charAt(at)) {
             at++;
         }
-        Check.same(what + ": all is as without it", round(due, at), round(got, at));
+        Check.same(what, round(due, at), round(got, at));
     }
 
     /** What stands round a place: enough to tell two apart that differ there. */
