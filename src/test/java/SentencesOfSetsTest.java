@@ -208,6 +208,13 @@ public final class SentencesOfSetsTest {
         plan("in one they buy ahead", x, 3, 40 + 50, 4, 0);
         plan("apart they don't", x, 2, 57, 0, 3);
         plan("apart", x, 1, 10, 1, 0);
+        CoalStreet y = told("step 1 10;step 5 7;gather 20;", 2, 2);
+        y.cellar(0, 1);
+        due("groups are apart", 2, () -> y.group(3, -1));
+        due("their total", 40, () -> y.least(3));
+        plan("in one they buy more", y, 3, 35 + 20, 5);
+        plan("apart as many as each wants", y, 1, 20, 2);
+        plan("apart as many as each wants", y, 2, 20, 2);
     }
 
     // ---- "THE PLAN: of those of that cost the one with the fewest sacks bought, of these the first row by MONTHS."
