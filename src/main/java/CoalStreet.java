@@ -1656,17 +1656,18 @@ public final class CoalStreet {
             from = NONE;
             each = NONE;
             most = NO_COINS;
-            for (int n = 2; n <= 12; n++) {
-                for (int r = 1; r < price; r++) {
-                    tariff.steps = 0;
-                    tariff.addStep(1, price);
+            tariff.steps = 0;
+            tariff.addStep(1, price);
+            plain = gain();
+            // By a step a set spends no more than by p alone, and buys no less, so that none gains more than p alone:
+            // the first one that gains as much is MOST.
+            for (int n = 2; n <= 12 && most < plain; n++) {
+                for (int r = 1; r < price && most < plain; r++) {
+                    tariff.steps = 1;
                     tariff.addStep(n, r);
                     keepIfMore(n, r, gain());
                 }
             }
-            tariff.steps = 0;
-            tariff.addStep(1, price);
-            plain = gain();
         }
 
         private void keepIfMore(int n, int r, int gain) {

@@ -1,4 +1,5 @@
 import java.math.BigInteger;
+import java.util.Arrays;
 
 /**
  * What promises 20 to 30 and the terms of PAY, LEAVES, JUDGED, PARTING, SHARES, FIRST ROW, MISSING, WEIGHTS and RULE say
@@ -627,7 +628,7 @@ public final class SentencesOfPartingsTest {
                         }
                         rest /= 3;
                     }
-                    Twins.lay(x, 0, 0, java.util.Arrays.copyOf(numbers, many));
+                    Twins.lay(x, 0, 0, Arrays.copyOf(numbers, many));
                     proved = x.proof(0, 7, 2);
                 }
                 Check.same("it is proved that none HOLDS in " + seed, true, proved);
@@ -786,7 +787,8 @@ public final class SentencesOfPartingsTest {
             x -> {
                 x.trust(0, 4, false);
                 return x.trust(4, 0, false);
-            }, x -> x.take(0, 2), x -> x.bar(2, 3), Twins.act(x -> x.restore(0)), x -> Streets.tell(x, "step 1 9;gather 3;rule alike;"),
+            }, x -> x.take(0, 2), x -> x.bar(2, 3),
+            Twins.act(x -> x.restore(0)), x -> Streets.tell(x, "step 1 9;gather 3;rule alike;"),
             x -> Streets.tell(x, "step 3 9;"), x -> x.pay(0, 50), x -> x.by(2)};
         for (int i = 0; i < changes.length; i++) {
             CoalStreet asked = five();
